@@ -22,6 +22,7 @@ final class Mirror {
     static final int NONE = -1;
 
     static final class Fault extends RuntimeException {
+        private static final long serialVersionUID = 1L;
         final int kind;
         final int place;
 
