@@ -51,7 +51,7 @@ public final class OverHill {
     private final Guess guess = new Guess();
     private final Wood wood = new Wood();
     private final Tunes tunes = new Tunes();
-    private final Game steps = new Game();
+    private final Game games = new Game();
     private final Night night = new Night();
     private final Slots slots = new Slots();
 
@@ -431,11 +431,11 @@ public final class OverHill {
         if (!now.stands() || !isStep(step)) {
             return NO_SUCH;
         }
-        return steps.winningStep(now, step) == NONE ? 0 : 1;
+        return games.winningStep(now, step) == NONE ? 0 : 1;
     }
 
     public int plays(int step) {
-        return now.stands() && isStep(step) ? steps.winningStep(now, step) : NO_SUCH;
+        return now.stands() && isStep(step) ? games.winningStep(now, step) : NO_SUCH;
     }
 
     // Rain and nights
@@ -1159,6 +1159,7 @@ public final class OverHill {
     private static final class Floor {
         private final int[] places = new int[SIDES * BEATS];
         private final int[] steps = new int[SIDES * BEATS];
+        private final int[] stumbleIn = new int[BEATS];
         private int gap;
         int calmLength;
         int calmStart;
@@ -1166,11 +1167,22 @@ public final class OverHill {
         void lay(Dance plan, int without) {
             gap = plan.gap;
             for (int side = 0; side < SIDES; side++) {
-                laySide(plan, side, without);
+                findStumbles(plan, side, without);
+                laySide(plan, side);
             }
         }
 
-        private void laySide(Dance plan, int side, int without) {
+        private void findStumbles(Dance plan, int side, int without) {
+            Arrays.fill(stumbleIn, NONE);
+            for (int k = 0; k < plan.stumbleCount; k++) {
+                int at = k * STUMBLE_PARTS;
+                if (k != without && plan.stumbles[at] == side) {
+                    stumbleIn[plan.stumbles[at + 1]] = at;
+                }
+            }
+        }
+
+        private void laySide(Dance plan, int side) {
             int length = plan.lengths[side];
             int place = plan.starts[side];
             for (int beat = 0; beat < BEATS; beat++) {
@@ -1178,14 +1190,10 @@ public final class OverHill {
                 places[at] = length == 0 ? NONE : place;
                 steps[at] = NONE;
                 if (length > 0 && plan.muds[beat] == 0) {
-                    int stumble = plan.stumbleOf(side, beat);
-                    int lag = 0;
-                    if (stumble == NONE || stumble == without) {
-                        steps[at] = plan.stepAt(side, place);
-                    } else {
-                        steps[at] = plan.stumbles[stumble * STUMBLE_PARTS + 2];
-                        lag = plan.stumbles[stumble * STUMBLE_PARTS + 3];
-                    }
+                    int stumble = stumbleIn[beat];
+                    boolean isPlain = stumble == NONE;
+                    steps[at] = isPlain ? plan.stepAt(side, place) : plan.stumbles[stumble + 2];
+                    int lag = isPlain ? 0 : plan.stumbles[stumble + 3];
                     place = wrap(place + 1 - lag, length);
                 }
             }

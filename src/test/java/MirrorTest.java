@@ -226,21 +226,28 @@ public final class MirrorTest {
         List<String> names = new ArrayList<>(USUAL.keySet());
         names.sort(null);
         names.removeAll(Arrays.asList(SLOW));
+        boolean manyChanges = random.nextInt(5) == 0;
+        String[] changing = {"stumble", "mud", "teach", "teach", "undo", "stumbled", "danced", "place", "late", "count"};
+        if (random.nextInt(10) > 0) {
+            text(Texts.lines(random, 14));
+        }
         while (calls < 400) {
-            int what = random.nextInt(100);
+            int what = random.nextInt(200);
             if (what < 3) {
                 String text = Texts.lines(random, random.nextInt(3) == 0 ? 60 : 14);
                 text(random.nextInt(3) == 0 ? Texts.spoiled(random, text) : text);
-            } else if (what == 3 && random.nextInt(3) == 0) {
+            } else if (manyChanges && what > 80) {
+                anyCall(changing[random.nextInt(changing.length)]);
+            } else if (what == 3) {
                 hearRow(random.nextInt(4), random.nextInt(2));
-            } else if (what == 4 && random.nextInt(3) == 0) {
+            } else if (what == 4) {
                 halfRow(random.nextInt(4));
             } else if (what == 5 && random.nextInt(10) == 0) {
                 anyCall(SLOW[random.nextInt(SLOW.length)]);
             } else {
                 String name = names.get(random.nextInt(names.size()));
-                boolean rare = name.equals("dance") || name.equals("back");
-                if (!rare || random.nextInt(4) == 0) {
+                int rare = name.equals("dance") ? 40 : name.equals("back") ? 3 : 1;
+                if (random.nextInt(rare) == 0) {
                     anyCall(name);
                 }
             }

@@ -153,7 +153,9 @@ public final class PromisesTest {
         due("4: empty", x.dance(), 0);
         due("4: there is none then", x.answers(0), -2);
         due("4: no gap then", x.count(0), 0);
-        due("4: no tune then", x.count(8), 0);
+        for (int what = 0; what <= 12; what++) {
+            due("4: nothing then: count(" + what + ")", x.count(what), 0);
+        }
         due("4: the first LINE is no LINE", Texts.tell(x, "round 0 of 0 begins 0;"), -4);
     }
 
@@ -189,6 +191,13 @@ public final class PromisesTest {
         faulty("dance gap -1", 1, 10);
         faulty("dance gap 0\todds", 1, 11);
         faulty("Dance", 1, 0);
+        faulty("mance gap 0", 1, 0);
+        faulty("dance tap 0", 1, 6);
+        faulty("dance gaz 0", 1, 6);
+        faulty("dance{", 1, 5);
+        faulty("dance`", 1, 5);
+        faulty("dance gap 1/", 1, 11);
+        faulty("dance gap 1:", 1, 11);
         faulty("mud 3;", 1, 0);
         faulty("7", 1, 0);
         faulty(";", 1, 0);
@@ -198,6 +207,8 @@ public final class PromisesTest {
         faulty(h + h, 1, 26);
         faulty(h + "x", 1, 26);
         faulty(h + "mudd 3;", 1, 26);
+        faulty(h + "mudz 3;", 1, 26);
+        faulty(h + "mu d 3;", 1, 26);
         faulty(h + "mud;", 1, 29);
         faulty(h + "mud 3 4;", 1, 32);
         faulty(h + "mud 3 mud 4;", 1, 32);
@@ -464,6 +475,13 @@ public final class PromisesTest {
         due("16", z.holes(0, 0, 199), 1);
         due("19: it mends", z.undoes(0), 2 - 400);
         due("20: not by it", z.causes(0, 0), 0);
+        OverHill b = told("dance gap 0 odds 0 rain 0; round 0 of 0 begins 0; round 1 of 0 begins 0; answers 0 0;"
+            + "stumble 1 at 0 does 2 lag 0; stumble 0 at 199 does 2 lag 0;");
+        due("19: BEAT 0", b.undoes(0), 1);
+        due("19: BEAT 199", b.undoes(1), 1);
+        OverHill c = told("dance gap 0 odds 0 rain 0; round 0 of 0 begins 0; round 1 of 0 begins 0; answers 3;"
+            + "stumble 1 at 0 does 3 lag 0;");
+        due("19: BEAT 0 on SIDE 1", c.undoes(0), 1);
         OverHill m = told(PLAIN + "stumble 0 at 4 does 5 lag 1; mud 4;");
         due("19: in mud it is none", m.undoes(0), 0);
         due("13: in mud it is none", m.late(0, 5), 1);
@@ -612,6 +630,20 @@ public final class PromisesTest {
         guessed("ahead of the gap", withRow(BY_TURNS, 0, 1, 1, 0), 0, 0, NONE, 0, NONE, 0);
         // BEAT 199 tells that the lag is even: 30 of each BEAT, of which five go on as without in it.
         guessed("the last beat", withRow(BY_TURNS, 0, 1, 199, 1), 0, 1801, 0, SIXTY, 2, 1776);
+        // of twelve PLACES 4 is in one: no lag but none
+        String twelve = "dance gap 0 odds 0 rain 0; round 1 of 0 1 2 3 4 5 0 0 0 0 0 0 begins 0;";
+        guessed("no lag", withRow(twelve, 0, 1, 5, 3, 16, 4), 0, 1, 331, 1 << 5, NONE, 1);
+        guessed("lag 1", withRow(twelve, 0, 1, 5, 3, 17, 4), 0, 1, 332, 1 << 5, NONE, 1);
+        guessed("lag 9", withRow(twelve, 0, 1, 5, 3, 25, 4), 0, 1, 340, 1 << 5, NONE, 1);
+        OverHill alone = withRow(BY_TURNS, 0, 1, 7, 3);
+        due("33: asked alone", alone.leaves(0, 0), 5);
+        // MUD up to BEAT 58: the first that tells is danced in 59 and heard in 79; of 80 none is asked
+        StringBuilder mud = new StringBuilder("dance gap 20 odds 0 rain 0; round 1 of 0 1 begins 0;");
+        for (int beat = 0; beat < 59; beat++) {
+            mud.append("mud ").append(beat).append(';');
+        }
+        guessed("the last to listen", withRow(mud.toString(), 0, 1), 0, 3601, 0, SIXTY, 79, 3551);
+        guessed("beyond the last to listen", withRow(mud.toString(), 0, 1, 79, 3), 0, 10, 1 + 60 * 59 + 30, 1L << 59, NONE, 10);
         due("29: cut to a byte", withRow(BY_TURNS, 0, 0, 199, 1).heard(0, 0), -2);
     }
 
@@ -697,13 +729,12 @@ public final class PromisesTest {
     }
 
     private static void longestOfTheBeats() {
-        // All five must be right by turns: the worst of BEATS 0 .. 199 alone is told.
-        OverHill x = told(HEAD + "wood every 9 at 8; wood every 8 at 0; wood every 7 at 0;");
-        int worst = 0;
-        for (int b = 0; b < 200; b++) {
-            worst = Math.max(worst, x.crosses(b) - b);
-        }
-        due("38: the worst", x.longest(), worst);
+        due("38: from BEAT 0 alone", told(HEAD + "wood every 7 at 6; wood every 4 at 2; wood every 9 at 1; wood every 6 at 0;"
+            + "wood every 9 at 4;").longest(), 33);
+        due("38: from BEAT 199 alone", told(HEAD + "wood every 7 at 2; wood every 5 at 0; wood every 9 at 2; wood every 5 at 3;"
+            + "wood every 2 at 0;").longest(), 27);
+        due("38: not from 200, which is none", told(HEAD + "wood every 8 at 7; wood every 7 at 4; wood every 9 at 6;"
+            + "wood every 9 at 5;").longest(), 31);
     }
 
     // ---------------------------------------------------------------- 39 to 47
@@ -922,6 +953,11 @@ public final class PromisesTest {
         // without ROUNDS there is one draw each BEAT: 38 58 13 15 51 27 10 19 12 86
         OverHill none = told(HEAD);
         due("52: no rounds", none.drawn(1, 10, 2), 5);
+        // seed 0: x is 12345, then 1103515245 times it and 12345 modulo 2 to the 31st: 1406932606, 21468 of 65536
+        due("52: seed 0", none.drawn(0, 1, 2), 1);
+        due("52: seed 0", told("dance gap 0 odds 0 rain 68;").drawn(0, 2, 2), 1);
+        due("52: seed 0", told("dance gap 0 odds 0 rain 69;").drawn(0, 2, 2), 2);
+        due("53: seed 0", none.nights(0, 2, 5), 2);
         due("52: no rounds", none.drawn(1, 10, 3), 0);
         // SIDE 1 alone: 38 58, 13, 15, 51 27, 10, 19, 12, 86 49
         OverHill one = told(HEAD + "round 1 of 5 begins 0;");
@@ -1075,8 +1111,15 @@ public final class PromisesTest {
         due("57: behind back", x.step(1, 0), 1);
         due("57: behind back", x.undo(), 0);
         due("57: behind back", x.danced(0, 2), 2);
+        x.mud(100, 1);
+        x.mud(101, 1);
         due("60: again", x.back(1), 0);
         due("60: the image stays", x.step(1, 0), 5);
+        due("60: its changes stay", x.undo(), 1);
+        due("60: its changes stay", x.step(1, 0), 1);
+        due("60: its changes stay", x.undo(), 0);
+        due("60: its changes stay", x.danced(0, 2), 2);
+        due("60: its mud stays", x.count(6), 1);
         Texts.put(x, "dance gap 0");
         x.row(2, 1, 1);
         x.dance();

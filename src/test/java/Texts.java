@@ -109,6 +109,11 @@ final class Texts {
                 b.append(words(r, "round " + side + " of " + steps(r, size, kinds) + "begins " + r.nextInt(size))).append(";");
             }
         }
+        if (r.nextInt(2) == 0) {
+            for (int step = 0; step < 6; step++) {
+                b.append(words(r, ("answers " + step + " " + steps(r, r.nextInt(5), 6)).trim())).append(";");
+            }
+        }
         int n = r.nextInt(most + 1);
         for (int i = 0; i < n; i++) {
             String next = words(r, line(r, kinds)) + ";" + (r.nextInt(3) == 0 ? "\n" : "");
