@@ -1197,6 +1197,45 @@ public final class PromisesTest {
         due("62: eight bytes", x.half(1), 1);
     }
 
+    /** Rows of sixty: the last one, and one ahead of a row that holds what is none such. */
+    private static void fullRows() {
+        for (int slot = 0; slot < 4; slot++) {
+            OverHill x = told(ALWAYS);
+            putRow(x, (slot + 1) % 4, 1, 777, 777);
+            putRow(x, slot, 1, new long[60]);
+            due("39: sixty", x.half(slot), 1);
+            due("40: sixty", x.fills(slot, 0), 0);
+            due("41: sixty", x.open(slot), 0);
+            due("29: sixty", x.heard(slot, 0), 3551);
+            due("30: sixty", x.first(slot, 0), 0);
+            due("62: the last of sixty", x.write(slot, 59, 6), 0);
+            due("29: the last is none such", x.heard(slot, 0), -2);
+            due("39: the last is none such", x.half(slot), -2);
+            due("63: the last of sixty", x.paste(slot, 0, slot, 59, 1), 0);
+            due("29: as it was", x.heard(slot, 0), 3551);
+            due("63: beyond sixty", x.paste(slot, 0, slot, 59, 2), -7);
+            due("63: all sixty", x.paste(slot, 0, slot, 0, 60), 0);
+        }
+    }
+
+    private static void fullRounds() {
+        String twelve = "0 1 2 3 4 5 0 1 2 3 4 5 begins 11;";
+        OverHill x = told(HEAD + "round 0 of " + twelve + "round 1 of " + twelve);
+        for (int side = 0; side < 2; side++) {
+            due("26: twelve", x.mend(side), 0);
+            due("27: twelve", x.mended(side, 11), 5);
+            due("27: twelve", x.mended(side, 12), -2);
+            due("28: twelve", x.stuck(side), NONE);
+            due("10: twelve", x.place(side, 0), 11);
+            due("10: round", x.place(side, 1), 0);
+            due("56: twelve", x.teach(side, 11, 0), 5);
+            due("56: twelve", x.teach(side, 12, 0), -2);
+        }
+        due("23: twelve", x.shifted(11), 0);
+        due("23: twelve", x.shifted(12), -2);
+        due("24: twelve", x.shift(), 0);
+    }
+
     private static void pasting() {
         OverHill x = new OverHill();
         putRow(x, 0, 1, 0, 1, 2, 3, 4, 5);
@@ -1270,6 +1309,8 @@ public final class PromisesTest {
         counts();
         imagesTaken();
         rowsAndWriting();
+        fullRows();
+        fullRounds();
         pasting();
         System.out.println(wrong == 0 ? asked + " answers are as due" : wrong + " answers are not as due");
         if (wrong != 0) {
