@@ -1,6 +1,9 @@
 /** I, and promises 1 to 9: the TAPE, its LINES, FAULTS, and what is told by them. */
 final class TextEdges extends Edges {
     private static final int H = HEAD.length();
+    /** One that has some of everything. */
+    private static final String ANOTHER = "dance gap 2 odds 3 rain 4;round 0 of 5 5 begins 1;round 1 of 4 begins 0;answers 1;"
+        + "stumble 0 at 8 does 1 lag 0;mud 9;wood every 2 at 1;tune 2 at 1;";
 
     @Override
     void all() {
@@ -511,8 +514,7 @@ final class TextEdges extends Edges {
                 due("no wood", x.crosses(0), 1);
                 due("no STUMBLE", x.stumbled(0, 0), -2);
                 due("no change", x.undo(), -5);
-                due("another", Texts.tell(x, "dance gap 2 odds 3 rain 4;round 0 of 5 5 begins 1;round 1 of 4 begins 0;answers 1;"
-                    + "stumble 0 at 8 does 1 lag 0;mud 9;wood every 2 at 1;tune 2 at 1;"), 8);
+                due("another", Texts.tell(x, ANOTHER), 8);
                 due("its gap", x.count(0), 2);
                 due("danced", x.danced(0, 7), 5);
                 x.mud(11, 1);
@@ -540,8 +542,8 @@ final class TextEdges extends Edges {
                 due("IMAGES stay", x.back(1), 0);
                 due("IMAGES stay", x.count(9), 1);
                 for (int i = 0; i < 2; i++) {
-                    Texts.tell(x, "dance gap 2 odds 3 rain 4;round 0 of 5 5 begins 1;round 1 of 4 begins 0;answers 1;"
-                        + "stumble 0 at 8 does 1 lag 0;mud 9;wood every 2 at 1;tune 2 at 1;");
+                    Texts.tell(x, ANOTHER);
+                    Texts.tell(x, ANOTHER);
                     x.mud(11, 1);
                     due("dance()", Texts.tell(x, text), 0);
                     noDance(x);

@@ -184,6 +184,14 @@ final class WoodEdges extends Edges {
             due("from SIDE 1 it would be", oneWay.returns(2) - 2, 8);
             lastsFrom("0", "wood every 7 at 6;wood every 4 at 2;wood every 9 at 1;wood every 6 at 0;wood every 9 at 4;", 0, 33);
             lastsFrom("199", "wood every 7 at 2;wood every 5 at 0;wood every 9 at 2;wood every 5 at 3;wood every 2 at 0;", 199, 27);
+            // from BEAT 200, which is none, it would take longer
+            OverHill x = told(HEAD + "wood every 8 at 7;wood every 7 at 4;wood every 9 at 6;wood every 9 at 5;");
+            int most = 0;
+            for (int beat = 0; beat < 200; beat++) {
+                most = Math.max(most, x.crosses(beat) - beat);
+            }
+            due("the most of all BEATS", most, 31);
+            due("BEATS 0 .. 199 alone", x.longest(), 31);
             // from SIDE 0: cell 0 in any BEAT, up to 2 BEATS for cell 1
             due("from SIDE 0", told(HEAD + "wood every 1 at 0;wood every 3 at 0;").longest(), 5);
         });
