@@ -60,7 +60,9 @@ abstract class Edges {
         System.out.println(now + ": " + what);
     }
 
+    /** Behind all sentences: what is complained of now is the document, or the tests of it. */
     static Map<String, List<String>> quoted() {
+        now = "the document";
         return QUOTED;
     }
 
