@@ -58,14 +58,11 @@ public final class RulesTest {
         look("one constructor", OverHill.class.getDeclaredConstructors().length == 1);
         look("final", Modifier.isFinal(OverHill.class.getModifiers()));
         look("NONE", OverHill.class.getField("NONE").getInt(null) == -1 && OverHill.class.getFields().length == 1);
+        look("fields of OverHill", countFields(OverHill.class) <= 20);
         look("at most some twelve classes", OverHill.class.getDeclaredClasses().length + 1 <= 12);
         for (Class<?> c : OverHill.class.getDeclaredClasses()) {
             look("static: " + c, Modifier.isStatic(c.getModifiers()) && !Modifier.isPublic(c.getModifiers()));
-            int fields = 0;
-            for (var f : c.getDeclaredFields()) {
-                fields += Modifier.isStatic(f.getModifiers()) ? 0 : 1;
-            }
-            look("fields of " + c, fields <= 20);
+            look("fields of " + c, countFields(c) <= 20);
             for (Method m : c.getDeclaredMethods()) {
                 look("no name of a public one: " + m, !names.contains(m.getName()));
             }
@@ -73,6 +70,14 @@ public final class RulesTest {
         for (Method m : OverHill.class.getDeclaredMethods()) {
             look("no name of a public one: " + m, Modifier.isPublic(m.getModifiers()) || !names.contains(m.getName()));
         }
+    }
+
+    private static int countFields(Class<?> c) {
+        int fields = 0;
+        for (var f : c.getDeclaredFields()) {
+            fields += Modifier.isStatic(f.getModifiers()) ? 0 : 1;
+        }
+        return fields;
     }
 
     private static void source() throws IOException {
